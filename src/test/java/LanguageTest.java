@@ -1,0 +1,117 @@
+import java.lang.reflect.Constructor;
+import java.lang.reflect.Field;
+import java.lang.reflect.Method;
+import java.lang.reflect.Modifier;
+import java.nio.charset.StandardCharsets;
+import java.nio.file.Files;
+import java.nio.file.Path;
+import java.util.Arrays;
+import java.util.Set;
+import java.util.TreeSet;
+import java.util.regex.Matcher;
+import java.util.regex.Pattern;
+
+/** The face, and what a look at the source can tell of the rules of LANGUAGE.md. */
+public final class LanguageTest {
+  private static final Path SOURCE = Path.of("src/main/java/DoorsOnCogs.java");
+  private static final String FACE =
+      "int feed(int,int,int,int,int); int end(int); int street(); int rule(); int door(int,int); "
+          + "long place(int,int); int join(int,int); long ratio(int,int,int); int push(int,int); "
+          + "int can(int,int); int reach(int,boolean); boolean slip(int,int); "
+          + "boolean want(int,int); int planned(int,int); int row(int,int,int); int cut(int,int); "
+          + "int freed(int); boolean seen(int,int); int slipped(int); int coming(int); "
+          + "int day(int); int would(int,int); long worn(int,int,int); int seed(int); "
+          + "int drawn(int,int,int,int); int count(int); int image(int); int back(int)";
+  private static int wrong = 0;
+
+  private static void hold(boolean isSo, String what) {
+    if (!isSo) {
+      wrong++;
+      System.out.println("not so: " + what);
+    }
+  }
+
+  public static void main(String[] args) throws Exception {
+    String source = Files.readString(SOURCE, StandardCharsets.ISO_8859_1);
+    face();
+    members();
+    words(source.replaceAll("(?s)/\\*.*?\\*/", "").replaceAll("//[^\n]*", ""));
+    System.out.println(wrong == 0 ? "the language is kept to" : wrong + " rules are not kept to");
+    if (wrong != 0) {
+      System.exit(1);
+    }
+  }
+
+  private static void face() {
+    Class<?> c = DoorsOnCogs.class;
+    hold(Modifier.isPublic(c.getModifiers()) && Modifier.isFinal(c.getModifiers()), "public final");
+    Set<String> methods = new TreeSet<>();
+    for (Method m : c.getDeclaredMethods()) {
+      if (!Modifier.isPrivate(m.getModifiers())) {
+        hold(Modifier.isPublic(m.getModifiers()), "rule 1: " + m);
+        StringBuilder b = new StringBuilder(m.getReturnType() + " " + m.getName() + "(");
+        for (Class<?> p : m.getParameterTypes()) {
+          b.append(b.charAt(b.length() - 1) == '(' ? "" : ",").append(p);
+        }
+        methods.add(b.append(")").toString());
+      }
+    }
+    Set<String> due = new TreeSet<>(Arrays.asList(FACE.split("; ?")));
+    hold(methods.equals(due), "the methods of the face: " + methods);
+    Constructor<?>[] made = c.getDeclaredConstructors();
+    hold(made.length == 1 && Modifier.isPublic(made[0].getModifiers())
+        && made[0].getParameterCount() == 0, "one public constructor");
+    for (Field f : c.getDeclaredFields()) {
+      hold(Modifier.isPrivate(f.getModifiers()) || f.getName().equals("NONE"), "rule 1: " + f);
+    }
+  }
+
+  private static void members() {
+    Set<String> open = new TreeSet<>();
+    for (String m : FACE.split("; ?")) {
+      open.add(m.replaceAll(".* (\\w+)\\(.*", "$1"));
+    }
+    Class<?>[] inside = DoorsOnCogs.class.getDeclaredClasses();
+    hold(inside.length <= 11, "rule 11: twelve classes");
+    for (Class<?> c : inside) {
+      hold(Modifier.isStatic(c.getModifiers()), "rule 2: " + c + " is static");
+      int fields = 0;
+      for (Field f : c.getDeclaredFields()) {
+        boolean isStatic = Modifier.isStatic(f.getModifiers());
+        fields += isStatic ? 0 : 1;
+        hold(!isStatic || Modifier.isFinal(f.getModifiers()), "rule 5: " + f);
+      }
+      hold(fields <= 20, "rule 11: fields of " + c);
+      for (Method m : c.getDeclaredMethods()) {
+        hold(!open.contains(m.getName()), "rule 1: " + m);
+        hold(m.getParameterCount() <= 7, "rule 11: " + m);
+      }
+    }
+  }
+
+  private static void words(String code) {
+    for (String word : "throw try catch synchronized assert package var float double yield volatile"
+        .split(" ")) {
+      hold(!Pattern.compile("\\b" + word + "\\b").matcher(code).find(), "no " + word);
+    }
+    for (String sign : new String[] {"->", "::", "\"\"\"", "Exact(", "System.out", "new int[][]"}) {
+      hold(!code.contains(sign), "no " + sign);
+    }
+    Matcher imports = Pattern.compile("import ([\\w.]+);").matcher(code);
+    while (imports.find()) {
+      hold(imports.group(1).equals("java.util.Arrays"), "rule 4: " + imports.group(1));
+    }
+    Matcher calls = Pattern.compile("\\b(Math|Integer|Long|Arrays|System)\\.(\\w+)").matcher(code);
+    Set<String> known = Set.of("abs", "max", "min", "floorDiv", "floorMod", "bitCount", "fill",
+        "arraycopy");
+    while (calls.find()) {
+      hold(known.contains(calls.group(2)), "rule 4: " + calls.group());
+    }
+    Matcher bodies = Pattern
+        .compile("(?m)^( {2}| {4})(\\w[^\n]*\\)) \\{\n((?:\\1 [^\n]*|)\n)*").matcher(code);
+    while (bodies.find()) {
+      long lines = bodies.group().lines().count();
+      hold(lines <= 60, "rule 11: " + lines + " lines of " + bodies.group(2));
+    }
+  }
+}
