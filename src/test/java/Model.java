@@ -597,18 +597,22 @@ final class Model {
     }
     List<List<Frac>> states = new ArrayList<>();
     Map<List<Frac>, List<Integer>> ways = new HashMap<>();
+    List<Integer> pushers = new ArrayList<>();
+    List<Frac[]> ratios = new ArrayList<>();
+    for (int d = 0; d < now.doors.size(); d++) {
+      if (((touched & set & ~now.fixed) >> d & 1) == 1 && !locked(d)) {
+        pushers.add(d);
+        ratios.add(ratios(now, d, 0, new boolean[1]));
+      }
+    }
     states.add(now.places);
     ways.put(now.places, new ArrayList<>());
     for (int i = 0; i < states.size(); i++) {
-      for (int d = 0; d < now.doors.size(); d++) {
-        if (((touched & set & ~now.fixed) >> d & 1) == 0 || locked(d)) {
-          continue;
-        }
-        Frac[] r = ratios(now, d, 0, new boolean[1]);
+      for (int p = 0; p < pushers.size(); p++) {
         for (int n = -60; n <= 60; n++) {
-          List<Frac> next = turned(states.get(i), r, n);
-          if (n == 0 || jam(next) >= 0 || (openSet(next) & watched & set) != 0
-              || ways.containsKey(next)) {
+          List<Frac> next = turned(states.get(i), ratios.get(p), n);
+          if (n == 0 || ways.containsKey(next) || jam(next) >= 0
+              || (openSet(next) & watched & set) != 0) {
             continue;
           }
           if (states.size() == 2000) {
@@ -617,7 +621,7 @@ final class Model {
           }
           states.add(next);
           List<Integer> way = new ArrayList<>(ways.get(states.get(i)));
-          way.add(1000 * d + 100 + n);
+          way.add(1000 * pushers.get(p) + 100 + n);
           ways.put(next, way);
           if (asWanted(next, set)) {
             return way;

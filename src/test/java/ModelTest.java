@@ -35,7 +35,7 @@ public final class ModelTest {
   }
 
   private int go() {
-    if (run % 3 != 0) {
+    if (run % 3 != 0 || isPlanning) {
       tell(streetText(), true);
       tell(ruleText(), false);
     }
@@ -114,7 +114,7 @@ public final class ModelTest {
   }
 
   private String mutated(String text) {
-    if (below(4) != 0 || text.isEmpty()) {
+    if (below(isPlanning ? 20 : 4) != 0 || text.isEmpty()) {
       return text;
     }
     String signs = "0123456789 ;[]<>=+-*/.Xadenorst\0\377";
@@ -148,7 +148,7 @@ public final class ModelTest {
       set[i] = i;
     }
     int joins = below(8) == 0 ? below(18) : below(n + 2);
-    boolean isTree = below(3) > 0;
+    boolean isTree = below(3) > 0 || isPlanning;
     for (int i = 0; i < joins && n > 1; i++) {
       int one = below(n);
       int other = below(n);
@@ -239,14 +239,14 @@ public final class ModelTest {
   // ---- calls
 
   private void call() {
-    int kind = below(isPlanning ? 40 : 34);
+    int kind = below(isPlanning ? 60 : 34);
     int d = around(doors);
     int e = around(doors);
     int part = around(2);
     int rule = around(model.rules.size());
     switch (kind) {
       case 0, 1 -> {
-        if (below(4) == 0) {
+        if (isPlanning || below(4) == 0) {
           tell(streetText(), true);
         }
       }
@@ -343,7 +343,7 @@ public final class ModelTest {
   private void wantSome() {
     int open = aSet();
     int shut = below(10) == 0 ? aSet() : aSet() & ~open;
-    if (below(3) > 0) {
+    if (below(4) > 0) {
       open &= 1 << below(doors) | 1 << below(doors);
       shut &= 1 << below(doors) | 1 << below(doors);
     }
@@ -352,8 +352,8 @@ public final class ModelTest {
 
   private void planSome() {
     wantSome();
-    int touched = aSet();
-    int watched = below(3) == 0 ? aSet() : 0;
+    int touched = below(3) == 0 ? aSet() : (1 << model.now.doors.size()) - 1;
+    int watched = below(4) == 0 ? aSet() : 0;
     int pushes = model.planned(touched, watched);
     due("planned(" + touched + ", " + watched + ")", real.planned(touched, watched), pushes);
     int k = around(Math.max(2, pushes));

@@ -96,6 +96,7 @@ public final class PromiseTest {
     wants();
     plans();
     plansOfSets();
+    plansByPaces();
     rows();
     cuts();
     frees();
@@ -336,6 +337,12 @@ public final class PromiseTest {
     dueSum("3 if not [1<2 and 2<1];8", 3);
     dueSum("3 if not not 1<2;8", 3);
     dueSum("3 if 2*3=1+5;8", 3);
+    dueSum("3 if 2<=2;8", 3);
+    dueSum("3 if 2>=2;8", 3);
+    dueSum("3 if 2>=3;8", 8);
+    dueSum("3 if not 1<2;8", 8);
+    dueSum("3 if not 1<2 and 2<1;8", 8);
+    dueSum("3 if 1<2 and not 2<1;8", 3);
     dueSum("0;8", 0);
     dueSum("3 if 1=2", 0);
   }
@@ -618,6 +625,19 @@ public final class PromiseTest {
     due(15, "planned(32, 0), beyond 2000", slowest.planned(32, 0), -3);
   }
 
+  /** Pushers of unlike paces: one turns the others by 15 teeth, one by 1. */
+  private static void plansByPaces() {
+    DoorsOnCogs x = told("door 60 60;door 4 0;axle 0 1;door 60 58;belt 0 2;door 60 60;mesh 0 3");
+    x.slip(3, 60);
+    x.want(1, 8);
+    due(16, "row(2, 0, 0), coarse", x.row(2, 0, 0), 1103);
+    due(16, "row(4, 0, 0), fine", x.row(4, 0, 0), 2131);
+    due(16, "row(6, 0, 0), the coarse one is the less", x.row(6, 0, 0), 1103);
+    x.want(4, 1);
+    due(15, "planned(2, 0), coarse", x.planned(2, 0), -2);
+    due(16, "row(6, 0, 0), the fine one alone", x.row(6, 0, 0), 2129);
+  }
+
   private static void rows() {
     DoorsOnCogs x = told("door 10 6;door 12 8");
     x.want(3, 0);
@@ -701,13 +721,21 @@ public final class PromiseTest {
     due(20, "slipped(2)", x.slipped(2), -9);
     x.seen(1, 2);
     due(20, "slipped(0), two of them", x.slipped(0), 0);
+    x.seen(-1, MANY);
+    x.seen(0, 3);
+    x.seen(1, 1);
+    due(20, "slipped(1), the first", x.slipped(1), 0);
+    due(20, "slipped(2), the first", x.slipped(2), 2);
+    x.seen(1, 2);
+    x.seen(2, -11);
+    x.seen(0, 1);
     due(20, "slipped(3)", x.slipped(3), -1);
     due(20, "slipped(-1)", x.slipped(-1), -1);
     due(19, "seen(4, 0)", x.seen(4, 0), false);
     due(19, "seen(-2, 0)", x.seen(-2, 0), false);
     due(19, "seen(0, 10000)", x.seen(0, 10000), false);
     due(19, "seen(0, -10000)", x.seen(0, -10000), false);
-    due(19, "count(7)", x.count(7), 6);
+    due(19, "count(7)", x.count(7), 7);
     due(19, "seen(0, 9999)", x.seen(0, 9999), true);
     due(19, "seen(3, -9999)", x.seen(3, -9999), true);
     due(19, "count(7)", x.count(7), 15);
@@ -803,6 +831,7 @@ public final class PromiseTest {
     due(25, "seed(-1)", x.seed(-1), -1);
     due(25, "seed(0)", x.seed(0), MANY);
     // From 0 on the draws are 0, 21468, 9988, 22117, 3498, 16927, 16045, 19741.
+    due(26, "drawn(0, 1, 1, 0)", x.drawn(0, 1, 1, 0), 1);
     due(26, "drawn(0, 1, 3, 0)", x.drawn(0, 1, 3, 0), 3);
     due(26, "drawn(0, 1, 3, 1)", x.drawn(0, 1, 3, 1), 1);
     due(26, "drawn(0, 1, 4, 1)", x.drawn(0, 1, 4, 1), 2);
@@ -839,6 +868,8 @@ public final class PromiseTest {
     for (int what = 0; what < 12; what++) {
       due(27, "count(" + what + ")", x.count(what), want[what]);
     }
+    DoorsOnCogs later = told("door 9 0;door 9 0;door 9 0;mesh 1 2;belt 2 1");
+    due(27, "count(4), the first is not locked", later.count(4), 6);
     for (int what : new int[] {-1, 12, MANY, FEW}) {
       due(27, "count(" + what + ")", x.count(what), -1);
     }
