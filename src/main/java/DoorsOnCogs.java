@@ -218,18 +218,23 @@ public final class DoorsOnCogs {
   }
 
   public int planned(int touched, int watched) {
-    if (!scene.isSet(touched) || !scene.isSet(watched)) {
+    if (!isPlanOf(touched, watched)) {
       return NONE;
     }
     return planner.solve(touched, watched, 0);
   }
 
   public int row(int touched, int watched, int k) {
-    if (!scene.isSet(touched) || !scene.isSet(watched) || k < 0) {
+    if (!isPlanOf(touched, watched) || k < 0) {
       return NONE;
     }
     int pushes = planner.solve(touched, watched, k);
     return pushes < 0 ? pushes : planner.askedPush;
+  }
+
+  /** Unlike want, a plan takes no sets without a street, not even empty ones. */
+  private boolean isPlanOf(int touched, int watched) {
+    return scene.doors > 0 && scene.isSet(touched) && scene.isSet(watched);
   }
 
   public int cut(int one, int other) {

@@ -634,7 +634,7 @@ final class Model {
   }
 
   int row(int touched, int watched, int k, boolean isCount) {
-    if (!isSet(touched) || !isSet(watched) || k < 0) {
+    if (now.doors.isEmpty() || !isSet(touched) || !isSet(watched) || k < 0) {
       return -1;
     }
     List<Integer> row = new ArrayList<>();

@@ -130,6 +130,7 @@ public final class PromiseTest {
     due(1, "want", x.want(1, 0), false);
     due(1, "planned", x.planned(1, 0), -1);
     due(1, "row", x.row(0, 1, 0), -1);
+    plansWithoutStreet(x);
     due(1, "cut", x.cut(0, 1), -1);
     due(1, "freed", x.freed(0), -1);
     due(1, "seen", x.seen(0, 0), false);
@@ -140,6 +141,15 @@ public final class PromiseTest {
     due(1, "worn", x.worn(0, 0, 0), -1);
     due(1, "drawn", x.drawn(0, 1, 1, 0), -1);
     due(1, "back", x.back(0), -1);
+  }
+
+  /** Unlike want, plans take no sets without a street, not even empty ones. */
+  private static void plansWithoutStreet(DoorsOnCogs x) {
+    due(14, "want(0, 0), no street", x.want(0, 0), true);
+    due(15, "planned(0, 0), no street", x.planned(0, 0), -1);
+    due(16, "row(0, 0, 0), no street", x.row(0, 0, 0), -1);
+    due(16, "row(0, 0, 7), no street", x.row(0, 0, 7), -1);
+    due(16, "row(0, 0, -1), no street", x.row(0, 0, -1), -1);
   }
 
   private static void feedAndEnd() {
@@ -909,6 +919,7 @@ public final class PromiseTest {
     due(29, "back(1)", x.back(1), 1);
     place(29, x, 0, 6, 1);
     due(29, "back(3), no street", x.back(3), 0);
+    plansWithoutStreet(x);
     due(29, "count(0)", x.count(0), 0);
     due(29, "count(2), rules stay", x.count(2), 1);
     due(29, "day(0)", x.day(0), -1);
