@@ -1,63 +1,5 @@
 /** The promises one by one, with answers worked out by hand. */
-public final class PromiseTest {
-  private static final long NO_FRACTION = -1000000000000L;
-  private static final int MANY = Integer.MAX_VALUE;
-  private static final int FEW = Integer.MIN_VALUE;
-  private static int wrong = 0;
-  private static int asked = 0;
-
-  private static void due(int promise, String call, long got, long want) {
-    asked++;
-    if (got != want) {
-      wrong++;
-      System.out.println("promise " + promise + ": " + call + " answered " + got + ", due is " + want);
-    }
-  }
-
-  private static void due(int promise, String call, boolean got, boolean want) {
-    due(promise, call, got ? 1 : 0, want ? 1 : 0);
-  }
-
-  /** Puts a text on the tape in place of what is there. */
-  private static void write(DoorsOnCogs x, String text) {
-    x.end(0);
-    for (int i = 0; i < text.length(); i += 20) {
-      int[] five = new int[5];
-      for (int j = 0; j < 20; j++) {
-        five[j / 4] = five[j / 4] << 8 | (i + j < text.length() ? text.charAt(i + j) : 0);
-      }
-      x.feed(five[0], five[1], five[2], five[3], five[4]);
-    }
-    x.end(text.length());
-  }
-
-  private static int street(DoorsOnCogs x, String text) {
-    write(x, text);
-    return x.street();
-  }
-
-  private static int rule(DoorsOnCogs x, String text) {
-    write(x, text);
-    return x.rule();
-  }
-
-  private static DoorsOnCogs told(String street, String... rules) {
-    DoorsOnCogs x = new DoorsOnCogs();
-    street(x, street);
-    for (String rule : rules) {
-      rule(x, rule);
-    }
-    return x;
-  }
-
-  private static void dueStreet(String text, int want) {
-    due(4, "street of '" + text + "'", street(new DoorsOnCogs(), text), want);
-  }
-
-  private static void dueRule(String text, int want) {
-    due(5, "rule of '" + text + "'", rule(new DoorsOnCogs(), text), want);
-  }
-
+public final class PromiseTest extends Bench {
   private static void place(int promise, DoorsOnCogs x, int door, long above, long below) {
     due(promise, "place(" + door + ", 0)", x.place(door, 0), above);
     due(promise, "place(" + door + ", 1)", x.place(door, 1), below);
@@ -108,10 +50,7 @@ public final class PromiseTest {
     counts();
     images();
     due(0, "NONE", DoorsOnCogs.NONE, -1);
-    System.out.println(asked + " answers looked at, " + wrong + " not as due");
-    if (wrong != 0) {
-      System.exit(1);
-    }
+    finish();
   }
 
   private static void newObject() {
@@ -177,6 +116,7 @@ public final class PromiseTest {
   }
 
   private static void streets() {
+    sentence("promise 4");
     dueStreet("door 4 0", 1);
     dueStreet("  door4 00004 ;door 60 60 ; mesh 0 1;fixed1  ", 2);
     dueStreet("", -3);
@@ -241,6 +181,7 @@ public final class PromiseTest {
   }
 
   private static void rules() {
+    sentence("promise 5");
     dueRule("push 1", 0);
     dueRule("push1if1<2", 0);
     dueRule(" push  1 + 2*door - teeth/span if [ place < 1 or not open=1] and opens<=joins ; push coming", 0);
@@ -285,6 +226,7 @@ public final class PromiseTest {
   }
 
   private static void ruleLimits() {
+    sentence("promise 5");
     String open = "push 1 if ";
     dueRule(open + "[".repeat(10) + "1<2" + "]".repeat(10), 0);
     dueRule(open + "[".repeat(11) + "1<2" + "]".repeat(11), -165);
@@ -321,43 +263,43 @@ public final class PromiseTest {
 
   /** What a sum is worth shows in how far a mill, shut at first, is pushed. */
   private static void ruleSums() {
-    dueSum("1", 1);
-    dueSum("2+3*4-10/3", 11);
-    dueSum("7-9", -2);
-    dueSum("2-9/2/2", 0);
-    dueSum("0-9/2", -4);
-    dueSum("[0]", 0);
-    dueSum("5/0", 0);
-    dueSum("99999", 60);
-    dueSum("0-99999", -60);
-    dueSum("60+1", 60);
-    dueSum("door*10+joins", 12);
-    dueSum("teeth", 30);
-    dueSum("span+7", 7);
-    dueSum("place", 15);
-    dueSum("open+9", 9);
-    dueSum("opens", 1);
-    dueSum("coming+6", 6);
+    dueDay("1", 1);
+    dueDay("2+3*4-10/3", 11);
+    dueDay("7-9", -2);
+    dueDay("2-9/2/2", 0);
+    dueDay("0-9/2", -4);
+    dueDay("[0]", 0);
+    dueDay("5/0", 0);
+    dueDay("99999", 60);
+    dueDay("0-99999", -60);
+    dueDay("60+1", 60);
+    dueDay("door*10+joins", 12);
+    dueDay("teeth", 30);
+    dueDay("span+7", 7);
+    dueDay("place", 15);
+    dueDay("open+9", 9);
+    dueDay("opens", 1);
+    dueDay("coming+6", 6);
     // 99999 to the fourth goes round: by 2 to the 64th over, it is below 0.
-    dueSum("99999*99999*99999*99999", (int) Math.max(-60, Math.min(60, 99999L * 99999 * 99999 * 99999)));
-    dueSum("3 if 1<1;4 if 1>1;5 if 2<=1;6 if 1>=2;7 if 1=2;8", 8);
-    dueSum("3 if not 1<2 or 2=2 and 3>2;8", 3);
-    dueSum("3 if [1<2 or 2=2] and 3<2;8", 8);
-    dueSum("3 if 1<2 or 2=2 and 3<2;8", 3);
-    dueSum("3 if not [1<2 and 2<1];8", 3);
-    dueSum("3 if not not 1<2;8", 3);
-    dueSum("3 if 2*3=1+5;8", 3);
-    dueSum("3 if 2<=2;8", 3);
-    dueSum("3 if 2>=2;8", 3);
-    dueSum("3 if 2>=3;8", 8);
-    dueSum("3 if not 1<2;8", 8);
-    dueSum("3 if not 1<2 and 2<1;8", 8);
-    dueSum("3 if 1<2 and not 2<1;8", 3);
-    dueSum("0;8", 0);
-    dueSum("3 if 1=2", 0);
+    dueDay("99999*99999*99999*99999", (int) Math.max(-60, Math.min(60, 99999L * 99999 * 99999 * 99999)));
+    dueDay("3 if 1<1;4 if 1>1;5 if 2<=1;6 if 1>=2;7 if 1=2;8", 8);
+    dueDay("3 if not 1<2 or 2=2 and 3>2;8", 3);
+    dueDay("3 if [1<2 or 2=2] and 3<2;8", 8);
+    dueDay("3 if 1<2 or 2=2 and 3<2;8", 3);
+    dueDay("3 if not [1<2 and 2<1];8", 3);
+    dueDay("3 if not not 1<2;8", 3);
+    dueDay("3 if 2*3=1+5;8", 3);
+    dueDay("3 if 2<=2;8", 3);
+    dueDay("3 if 2>=2;8", 3);
+    dueDay("3 if 2>=3;8", 8);
+    dueDay("3 if not 1<2;8", 8);
+    dueDay("3 if not 1<2 and 2<1;8", 8);
+    dueDay("3 if 1<2 and not 2<1;8", 3);
+    dueDay("0;8", 0);
+    dueDay("3 if 1=2", 0);
   }
 
-  private static void dueSum(String sum, int want) {
+  private static void dueDay(String sum, int want) {
     DoorsOnCogs x = told("door 8 0;door 30 0;belt 0 1;mesh 1 0;fixed 0;door 4 0");
     // Unlike joins lock them, so a second street without the mesh is what is pushed on.
     street(x, "door 8 0;door 30 0;belt 0 1;belt 1 0;fixed 0;door 5 5");
