@@ -303,7 +303,7 @@ public final class PlanEdgesTest extends Bench {
     due("planned(0, 0), nobody pushes", x.planned(0, 0), -2);
     x.want(0, 3);
     due("row(3, 0, 0), shut 58 teeth back", x.row(3, 0, 0), 100 - 58);
-    // A watched door that is open behind each push leaves the one state that is now.
+    // With a watched door on its belt the mill may turn only where that one is shut.
     DoorsOnCogs y = told("door 4 0;door 60 60;belt 0 1");
     y.slip(1, 60);
     y.want(0, 1);
