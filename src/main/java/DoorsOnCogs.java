@@ -1405,6 +1405,8 @@ public final class DoorsOnCogs {
   /** Looks for the fewest joins to cut. */
   private static final class Cutter {
     static final int MOST_CUTS = 3;
+    // So many sets of three joins there are among sixteen.
+    static final int MOST_SETS = 560;
     static final int NOT_WITH_THREE = -2;
 
     final Scene scene;
@@ -1423,10 +1425,12 @@ public final class DoorsOnCogs {
       other = newOther;
       int all = 1 << scene.joins;
       for (int size = 1; size <= MOST_CUTS; size++) {
-        for (int set = (1 << size) - 1; set < all; set = nextOfSize(set)) {
+        int set = (1 << size) - 1;
+        for (int tries = 0; tries < MOST_SETS && set < all; tries++) {
           if (isEnough(set)) {
             return set;
           }
+          set = nextOfSize(set);
         }
       }
       return NOT_WITH_THREE;

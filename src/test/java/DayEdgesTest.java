@@ -306,6 +306,15 @@ public final class DayEdgesTest extends Bench {
     x.coming(NONE);
     x.coming(2);
     due("worn(0, 2, 0), coming is 0", x.worn(0, 2, 0), 38);
+    // Joins of a street before count no more.
+    street(x, "door 9 9;door 9 9;belt 0 1");
+    street(x, "door 9 9");
+    x.coming(0);
+    due("would(2, 2), joins is 0", x.would(2, 2), 1);
+    due("would(3, 1), open is 0", x.would(3, 1), 1);
+    street(x, "door 9 0;door 9 9");
+    x.coming(1);
+    due("worn(1, 1, 0), opens is 1", x.worn(1, 1, 0), 1);
   }
 
   /** What the word place is worth at so many halves of a tooth of a mill that is shut there. */

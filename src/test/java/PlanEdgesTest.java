@@ -11,6 +11,7 @@ public final class PlanEdgesTest extends Bench {
     watchedDoors();
     watchedOfOtherSets();
     teethOfPlannedPush();
+    spansOfPlan();
     statesThatEnd();
     stateThatIsWanted();
     statesOfEachSet();
@@ -189,6 +190,24 @@ public final class PlanEdgesTest extends Bench {
     due("planned(8, 0), back by 62 or more", more.planned(8, 0), 2);
     due("row(8, 0, 0), back by 60 first", more.row(8, 0, 0), 3040);
     due("row(8, 0, 1), then by 60 first", more.row(8, 0, 1), 3040);
+  }
+
+  private static void spansOfPlan() {
+    sentence("a DOOR with a SPAN may not come below 0 or above its SPAN (in a plan, too)");
+    // The mill of 4 teeth is shut at 2 and 3, which a span of 2 lets it come to, and 1 does not.
+    DoorsOnCogs one = told("door 4 0;door 4 1;belt 0 1");
+    one.want(0, 1);
+    due("planned(3, 0), a span of 1", one.planned(3, 0), -2);
+    one.slip(1, 1);
+    due("row(3, 0, 0), a span of 1 from its end", one.row(3, 0, 0), 99);
+    DoorsOnCogs two = told("door 4 0;door 4 2;belt 0 1");
+    two.want(0, 1);
+    due("row(3, 0, 0), a span of 2", two.row(3, 0, 0), 102);
+    DoorsOnCogs mesh = told("door 4 0;door 4 2;mesh 0 1");
+    mesh.want(0, 1);
+    due("row(3, 0, 0), a span of 2, the other way", mesh.row(3, 0, 0), 98);
+    mesh.slip(1, 1);
+    due("row(3, 0, 0), a span of 2 from its midst", mesh.row(3, 0, 0), 99);
   }
 
   private static void statesThatEnd() {

@@ -520,5 +520,11 @@ public final class TextEdgesTest extends Bench {
     dueTest("not [1=2 and 1=2]", true);
     dueTest("not 1=1 or 1=1", true);
     dueTest("not [1=1 or 1=1]", false);
+    sentence("SUM SIGN SUM (a SUM on either side is whole)");
+    dueTest("1=1+1", false);
+    dueTest("1+1=1", false);
+    dueTest("2-1=1", true);
+    dueTest("3=1*3", true);
+    dueTest("1=2-1 and 2=2*1", true);
   }
 }

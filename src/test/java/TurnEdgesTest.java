@@ -444,14 +444,15 @@ public final class TurnEdgesTest extends Bench {
   private static void lockedRings() {
     sentence("LOCKED: JOINED DOORS among which by unlike JOINS some RATIO would be two numbers");
     String[] free = {"mesh 0 1;mesh 1 0", "belt 0 1;belt 0 1", "belt 0 1;belt 1 2;belt 2 0",
-        "mesh 0 1;mesh 1 2;belt 2 0", "axle 0 1;axle 1 0", "axle 0 3;belt 0 3",
+        "mesh 0 1;mesh 1 2;belt 2 0", "mesh 2 1;belt 0 1;mesh 0 2", "axle 0 1;axle 1 0", "axle 0 3;belt 0 3",
         "axle 0 1;axle 1 2;axle 2 0", "mesh 0 1;mesh 1 2;mesh 2 3;mesh 3 0"};
     for (String joins : free) {
       due("count(4) of " + joins, told(four() + joins).count(4), 0);
     }
     String[] ring = {"mesh 0 1;belt 1 0", "mesh 0 1;mesh 1 2;mesh 2 0", "axle 0 1;belt 0 1",
-        "axle 0 3;mesh 0 3", "axle 0 1;axle 1 2;belt 2 0", "belt 0 1;belt 1 2;mesh 2 0"};
-    int[] locked = {3, 7, 3, 9, 7, 7};
+        "axle 0 3;mesh 0 3", "axle 0 1;axle 1 2;belt 2 0", "belt 0 1;belt 1 2;mesh 2 0",
+        "mesh 2 1;belt 0 1;belt 0 2"};
+    int[] locked = {3, 7, 3, 9, 7, 7, 7};
     for (int i = 0; i < ring.length; i++) {
       due("count(4) of " + ring[i], told(four() + ring[i]).count(4), locked[i]);
     }
