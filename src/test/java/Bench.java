@@ -1,4 +1,5 @@
 import java.util.ArrayList;
+import java.util.Arrays;
 import java.util.List;
 import java.util.function.Supplier;
 
@@ -9,10 +10,12 @@ abstract class Bench {
   static final int MANY = Integer.MAX_VALUE;
   static final int FEW = Integer.MIN_VALUE;
   private static final int MOST_CALLS = 512;
+  private static final int SETUP_CALLS = 120;
 
   private static String about = "";
   private static int asked = 0;
   private static int wrong = 0;
+  private static int calls = 0;
 
   interface Call {
     long on(DoorsOnCogs x);
@@ -162,65 +165,68 @@ abstract class Bench {
 
   private static List<String> asked(DoorsOnCogs x) {
     List<String> answers = new ArrayList<>();
+    calls = 0;
     askNow(x, answers);
     askStreet(x, answers);
     askDays(x, answers);
     askTape(x, answers);
     for (int k = 0; k < 4; k++) {
-      answers.add("back(" + k + ") " + x.back(k));
+      note(answers, "back(" + k + ")", x.back(k));
       askNow(x, answers);
     }
-    if (answers.size() > MOST_CALLS - 110) {
+    if (calls > MOST_CALLS - SETUP_CALLS) {
       throw new IllegalStateException("more calls than an object is used for");
     }
     return answers;
   }
 
+  private static void note(List<String> answers, String name, long... values) {
+    answers.add(name + " " + Arrays.toString(values));
+    calls += values.length;
+  }
+
   private static void askNow(DoorsOnCogs x, List<String> answers) {
     for (int what = 0; what < 12; what++) {
-      answers.add("count(" + what + ") " + x.count(what));
+      note(answers, "count(" + what + ")", x.count(what));
     }
-    for (int d = 0; d < x.count(0); d++) {
-      answers.add("place(" + d + ") " + x.place(d, 0) + " by " + x.place(d, 1));
+    for (int d = 0; x.place(d, 1) != NO_FRACTION; d++) {
+      note(answers, "place(" + d + ")", x.place(d, 0), x.place(d, 1));
+      calls++;
     }
-    for (int what = 0; what < 3; what++) {
-      answers.add("slipped(" + what + ") " + x.slipped(what));
-    }
+    note(answers, "slipped", x.slipped(0), x.slipped(1), x.slipped(2));
   }
 
   private static void askStreet(DoorsOnCogs x, List<String> answers) {
     int doors = x.count(0);
     for (int d = 0; d < doors; d++) {
-      for (int what = 0; what < 6; what++) {
-        answers.add("door(" + d + ", " + what + ") " + x.door(d, what));
-      }
-      answers.add("ratio(" + d + ") " + x.ratio(d, 0, 0) + " by " + x.ratio(d, 0, 1));
-      answers.add("reach(" + d + ") " + x.reach(d, false) + " to " + x.reach(d, true));
+      note(answers, "door(" + d + ")", x.door(d, 0), x.door(d, 1), x.door(d, 2), x.door(d, 3),
+          x.door(d, 4), x.door(d, 5));
+      note(answers, "ratio(" + d + ", 0)", x.ratio(d, 0, 0), x.ratio(d, 0, 1));
+      note(answers, "reach(" + d + ")", x.reach(d, false), x.reach(d, true));
     }
-    for (int j = 0; j < x.count(1); j++) {
-      answers.add("join(" + j + ") " + x.join(j, 0) + " " + x.join(j, 1) + " " + x.join(j, 2));
+    int joins = x.count(1);
+    for (int j = 0; j < joins; j++) {
+      note(answers, "join(" + j + ")", x.join(j, 0), x.join(j, 1), x.join(j, 2));
     }
     int all = (1 << doors) - 1;
-    answers.add("planned " + x.planned(all, 0));
-    answers.add("row " + x.row(all, 0, 0));
+    note(answers, "planned and row", x.planned(all, 0), x.row(all, 0, 0));
   }
 
   private static void askDays(DoorsOnCogs x, List<String> answers) {
-    for (int r = 0; r < x.count(2); r++) {
-      for (int what = 0; what < 4; what++) {
-        answers.add("would(" + r + ", " + what + ") " + x.would(r, what));
-      }
-      answers.add("worn(" + r + ") " + x.worn(r, 0, 0) + " by " + x.worn(r, 0, 1));
-      answers.add("drawn(" + r + ") " + x.drawn(r, 3, 7, 1));
+    int rules = x.count(2);
+    for (int r = 0; r < rules; r++) {
+      note(answers, "would(" + r + ")", x.would(r, 0), x.would(r, 1), x.would(r, 2), x.would(r, 3));
+      note(answers, "worn(" + r + ", 0)", x.worn(r, 0, 0), x.worn(r, 0, 1));
+      note(answers, "drawn(" + r + ", 3, 7, 1)", x.drawn(r, 3, 7, 1));
     }
   }
 
   /** What is on the tape shows in what it is as a rule, or as a street where there are six. */
   private static void askTape(DoorsOnCogs x, List<String> answers) {
     int rule = x.rule();
-    answers.add("rule() " + rule + ", day " + x.day(rule));
+    note(answers, "rule() and its day", rule, x.day(rule));
     if (rule == NONE) {
-      answers.add("street() " + x.street());
+      note(answers, "street()", x.street());
     }
     askNow(x, answers);
   }
