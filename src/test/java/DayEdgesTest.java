@@ -18,6 +18,7 @@ public final class DayEdgesTest extends Bench {
     firstClause();
     passes();
     wordsOfDoor();
+    joinsOfDoor();
     refusedPushes();
     wouldsWithoutThese();
     wornsWithoutThese();
@@ -32,6 +33,8 @@ public final class DayEdgesTest extends Bench {
     imagesWithoutThese();
     backsWithoutThese();
     imagesKeep();
+    imagesKeepWhatWasTold();
+    imagesOfTwoStreets();
     finish();
   }
 
@@ -75,6 +78,9 @@ public final class DayEdgesTest extends Bench {
     due("feed at 379", x.feed(0x70757368, 0x20312020, 0x20202020, 0x20202020, 0x20202020), 399);
     due("feed at 399", x.feed(-1, -1, -1, -1, -1), NONE);
     due("count(9)", x.count(9), 399);
+    due("end(381)", x.end(381), 381);
+    due("feed at 381, the first that is too many", x.feed(-1, -1, -1, -1, -1), NONE);
+    due("count(9)", x.count(9), 381);
     due("end(380)", x.end(380), 380);
     due("feed at 380", x.feed(0x75736820, 0x31202020, 0x20202020, 0x20202020, 0x20202020), 400);
     due("feed at 400", x.feed(-1, -1, -1, -1, -1), NONE);
@@ -315,6 +321,19 @@ public final class DayEdgesTest extends Bench {
     street(x, "door 9 0;door 9 9");
     x.coming(1);
     due("worn(1, 1, 0), opens is 1", x.worn(1, 1, 0), 1);
+  }
+
+  private static void joinsOfDoor() {
+    sentence("joins (JOINS it has)");
+    DoorsOnCogs x = told("door 60 0;door 60 0;door 60 0;door 60 0;belt 0 1;mesh 2 1;belt 1 0",
+        "push joins * 10 + 1");
+    int[] joins = {2, 3, 1, 0};
+    for (int d = 0; d < 4; d++) {
+      x.slip(d, 30);
+      x.coming(NONE);
+      x.coming(d);
+      due("worn(0, " + d + ", 0)", x.worn(0, d, 0), joins[d] * 10 + 1);
+    }
   }
 
   /** What the word place is worth at so many halves of a tooth of a mill that is shut there. */
@@ -590,5 +609,54 @@ public final class DayEdgesTest extends Bench {
     duePlace(x, 0, 8, 15);
     x.back(1);
     duePlace(x, 0, 7, 15);
+  }
+
+  private static void imagesKeepWhatWasTold() {
+    sentence("all as it is; gone back to, it is as it was (what was SEEN, and who comes, too)");
+    DoorsOnCogs x = told("door 60 60;door 60 60", "push 1");
+    x.seen(0, 3);
+    x.coming(0);
+    x.coming(1);
+    x.coming(1);
+    x.image(0);
+    x.seen(0, 4);
+    x.coming(NONE);
+    for (int i = 0; i < 3; i++) {
+      x.coming(0);
+    }
+    x.image(1);
+    int[][] want = {{3, 1, 2}, {4, 3, 0}};
+    for (int k : new int[] {0, 1, 0}) {
+      x.back(k);
+      due("slipped(2) as in image " + k, x.slipped(2), want[k][0]);
+      due("worn(0, 0, 0) as in image " + k, x.worn(0, 0, 0), want[k][1]);
+      due("worn(0, 1, 0) as in image " + k, x.worn(0, 1, 0), want[k][2]);
+    }
+  }
+
+  private static void imagesOfTwoStreets() {
+    sentence("all as it is; gone back to, it is as it was (the STREET, too)");
+    DoorsOnCogs x = told("door 5 0;door 10 0;axle 0 1");
+    x.push(1, 3);
+    x.image(2);
+    street(x, "door 8 8;door 9 9;door 10 6;mesh 1 2;belt 1 2;fixed 0");
+    x.slip(1, 5);
+    x.image(1);
+    due("back(2)", x.back(2), 3);
+    duePlace(x, 0, 3, 2);
+    due("count(4)", x.count(4), 0);
+    due("door(0, 2)", x.door(0, 2), 0);
+    due("join(0, 2)", x.join(0, 2), 2);
+    due("ratio(0, 1, 0)", x.ratio(0, 1, 0), 2);
+    due("push(1, 1)", x.push(1, 1), 2);
+    due("back(1)", x.back(1), 2);
+    due("count(4)", x.count(4), 6);
+    due("door(0, 2)", x.door(0, 2), 1);
+    due("join(0, 2)", x.join(0, 2), 0);
+    duePlace(x, 1, 5, 1);
+    due("push(1, 1)", x.push(1, 1), -3);
+    due("back(2), as it was then", x.back(2), 3);
+    duePlace(x, 0, 3, 2);
+    duePlace(x, 1, 3, 1);
   }
 }

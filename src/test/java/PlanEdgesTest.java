@@ -14,6 +14,7 @@ public final class PlanEdgesTest extends Bench {
     spansOfPlan();
     statesThatEnd();
     stateThatIsWanted();
+    statesFromNowOn();
     statesOfEachSet();
     setsTogether();
     setsThatNeedNone();
@@ -254,6 +255,21 @@ public final class PlanEdgesTest extends Bench {
     due("planned(1, 0), by itself", beyond.planned(1, 0), 1);
     due("row(1, 0, 0), by itself", beyond.row(1, 0, 0), 130);
     due("planned(17, 0), by both", beyond.planned(17, 0), 1);
+  }
+
+  private static void statesFromNowOn() {
+    sentence("from now on STATES come one from another (those of a plan before are no more)");
+    // A push of door 1 by 1 turns the others by 4, so the mill of 4 teeth stays open by it.
+    DoorsOnCogs x = told("door 16 0;door 4 0;axle 0 1;door 4 0;belt 0 2;door 60 60;belt 0 3;"
+        + "door 60 60;belt 0 4");
+    x.want(8, 16);
+    due("planned(1, 0), 61 states", x.planned(1, 0), -2);
+    x.want(0, 4);
+    due("planned(2, 0), 16 states", x.planned(2, 0), -2);
+    due("row(1, 0, 0)", x.row(1, 0, 0), 102);
+    x.push(1, 1);
+    due("planned(2, 0), from elsewhere", x.planned(2, 0), -2);
+    due("row(1, 0, 0), from elsewhere", x.row(1, 0, 0), 98);
   }
 
   private static void statesOfEachSet() {

@@ -21,6 +21,8 @@ public final class TextEdgesTest extends Bench {
     leastFault();
     numberOfRules();
     clausesOfRule();
+    clausesOfEachRule();
+    rulesBehindFaults();
     digits();
     words();
     grammarWords();
@@ -120,6 +122,12 @@ public final class TextEdgesTest extends Bench {
     dueStreet("door 9 0;fixed 0;fixed 0", 1);
     dueStreet("door 4 0;".repeat(12) + "fixed 11", 12);
     dueStreet("door 4 0;".repeat(12) + "fixed 12", fault(114, 1));
+    DoorsOnCogs x = told("door 9 0;door 9 0;door 9 0;fixed 2;fixed 0");
+    int[] fixed = {1, 0, 1};
+    for (int d = 0; d < 3; d++) {
+      due("door(" + d + ", 2), two that are fixed", x.door(d, 2), fixed[d]);
+      due("push(" + d + ", 1), two that are fixed", x.push(d, 1), fixed[d] == 1 ? -2 : 1);
+    }
   }
 
   private static void numberOfDoors() {
@@ -279,6 +287,37 @@ public final class TextEdgesTest extends Bench {
     dueSum("1 if 1=2;".repeat(1) + "push 1 if 1=2;".repeat(10) + "push 9", 9);
   }
 
+  private static void clausesOfEachRule() {
+    sentence("12 CLAUSES at most (of each RULE)");
+    DoorsOnCogs x = new DoorsOnCogs();
+    String eleven = "push 1;".repeat(11);
+    due("rule of 12", rule(x, eleven + "push 1"), 0);
+    due("rule of 12 behind one of 12", rule(x, eleven + "push 1"), 1);
+    due("rule of 13", rule(x, eleven + "push 1;push 1"), fault(84, 4));
+    due("rule of 12 behind one of 13", rule(x, eleven + "push 1"), 2);
+  }
+
+  /** What a text with a fault told up to there must be gone when the next one is read. */
+  private static void rulesBehindFaults() {
+    sentence("-2 - its FAULT (a RULE behind one is as if it had not been)");
+    String[] bad = {"push 9;x", "push 9 if 1=1;push", "push 0*x", "push 0 if 1=2 and", IF + "[not [0*x",
+        IF + "not ".repeat(11), "push 1;".repeat(12) + "push 1", "push " + "1+".repeat(60) + "1"};
+    for (String text : bad) {
+      DoorsOnCogs x = told("door 60 0", text);
+      due("count(2) behind '" + text + "'", x.count(2), 0);
+      x.slip(0, 30);
+      x.coming(0);
+      due("rule behind '" + text + "'", rule(x, "push 2"), 0);
+      due("its push behind '" + text + "'", x.worn(0, 0, 0), 2);
+      due("] behind '" + text + "'", rule(x, IF + "1<2]"), fault(13, 0));
+      due("not and ] behind '" + text + "'", rule(x, IF + "not 1<2]"), fault(17, 0));
+      due("10 deep behind '" + text + "'", rule(x, IF + "[not ".repeat(5) + "1<2" + "]".repeat(5)), 1);
+      due("12 clauses behind '" + text + "'", rule(x, "push 1;".repeat(11) + "push 1"), 2);
+      due("60 values behind '" + text + "'", rule(x, "push " + "1+".repeat(59) + "1"), 3);
+      due("push of 60 values behind '" + text + "'", x.worn(3, 0, 0), 60);
+    }
+  }
+
   private static void digits() {
     sentence("NUMBER (1 to 5 digits, as far as digits go on)");
     dueRule("push 0", 0);
@@ -335,6 +374,12 @@ public final class TextEdgesTest extends Bench {
     dueRule("push not 1", fault(5, 0));
     dueRule("push push 1", fault(5, 0));
     dueRule("if 1<2 push 1", fault(0, 0));
+    dueRule("push 1 and 1<2", fault(7, 0));
+    dueRule("push 1 or 1<2", fault(7, 0));
+    dueRule("push 1 not 1<2", fault(7, 0));
+    dueRule(IF + "1 if 1<2", fault(12, 0));
+    dueRule(IF + "1<2 if 1<2", fault(14, 0));
+    dueRule(IF + "[1<2] if 1<2", fault(16, 0));
   }
 
   private static void endsOfRule() {

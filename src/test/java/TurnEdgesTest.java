@@ -456,6 +456,9 @@ public final class TurnEdgesTest extends Bench {
     for (int i = 0; i < ring.length; i++) {
       due("count(4) of " + ring[i], told(four() + ring[i]).count(4), locked[i]);
     }
+    due("count(4), two rings", told(four() + "mesh 0 1;belt 1 0;mesh 2 3;belt 3 2").count(4), 15);
+    due("count(4), a ring and one that turns", told(four() + "mesh 0 1;belt 1 0;mesh 2 3;mesh 3 2")
+        .count(4), 3);
     due("count(4), what hangs on a ring", told(four() + "mesh 0 1;belt 1 0;axle 1 2;mesh 2 3")
         .count(4), 15);
   }
