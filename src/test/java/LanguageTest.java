@@ -1,3 +1,4 @@
+import java.lang.reflect.Array;
 import java.lang.reflect.Constructor;
 import java.lang.reflect.Field;
 import java.lang.reflect.Method;
@@ -5,8 +6,14 @@ import java.lang.reflect.Modifier;
 import java.nio.charset.StandardCharsets;
 import java.nio.file.Files;
 import java.nio.file.Path;
+import java.util.ArrayList;
 import java.util.Arrays;
+import java.util.Collections;
+import java.util.IdentityHashMap;
+import java.util.List;
+import java.util.Map;
 import java.util.Set;
+import java.util.TreeMap;
 import java.util.TreeSet;
 import java.util.regex.Matcher;
 import java.util.regex.Pattern;
@@ -35,7 +42,11 @@ public final class LanguageTest {
     String source = Files.readString(SOURCE, StandardCharsets.ISO_8859_1);
     face();
     members();
-    words(source.replaceAll("(?s)/\\*.*?\\*/", "").replaceAll("//[^\n]*", ""));
+    String code = source.replaceAll("(?s)/\\*.*?\\*/", "").replaceAll("//[^\n]*", "");
+    words(code);
+    bodies(code);
+    depths();
+    room();
     System.out.println(wrong == 0 ? "the language is kept to" : wrong + " rules are not kept to");
     if (wrong != 0) {
       System.exit(1);
@@ -107,11 +118,103 @@ public final class LanguageTest {
     while (calls.find()) {
       hold(known.contains(calls.group(2)), "rule 4: " + calls.group());
     }
+    for (String sign : new String[] {"\" +", "+ \""}) {
+      hold(!code.contains(sign), "rule 10: no texts joined by " + sign);
+    }
+  }
+
+  // The calls that each method makes, by their names alone: methods of one name count as one.
+  private static final Map<String, Set<String>> CALLS = new TreeMap<>();
+
+  private static void bodies(String code) {
     Matcher bodies = Pattern
         .compile("(?m)^( {2}| {4})(\\w[^\n]*\\)) \\{\n((?:\\1 [^\n]*|)\n)*").matcher(code);
     while (bodies.find()) {
-      long lines = bodies.group().lines().count();
-      hold(lines <= 60, "rule 11: " + lines + " lines of " + bodies.group(2));
+      String head = bodies.group(2);
+      String body = bodies.group().substring(bodies.group().indexOf('\n'));
+      hold(body.lines().count() < 60, "rule 11: the lines of " + head);
+      String name = nameBefore(head, head.indexOf('('));
+      boolean isConstructor = Character.isUpperCase(name.charAt(0));
+      hold(isConstructor || !body.contains("new "), "no object is made by " + head);
+      Set<String> calls = CALLS.computeIfAbsent(name, k -> new TreeSet<>());
+      Matcher called = Pattern.compile("\\b(\\w+)\\(").matcher(body);
+      while (called.find()) {
+        calls.add(called.group(1));
+      }
     }
+    hold(CALLS.size() > 100, "the methods are found: " + CALLS.size());
+  }
+
+  private static String nameBefore(String head, int end) {
+    return head.substring(head.lastIndexOf(' ', end) + 1, end);
+  }
+
+  private static void depths() {
+    for (String name : CALLS.keySet()) {
+      int depth = depth(name, new ArrayList<>());
+      hold(depth <= 8, "rule 11: calls go " + depth + " deep from " + name);
+    }
+  }
+
+  /** How deep calls go from a method, itself and the library's counted. */
+  private static int depth(String name, List<String> open) {
+    if (open.contains(name)) {
+      hold(false, "no recursion: " + open + " " + name);
+      return 0;
+    }
+    open.add(name);
+    int deepest = 0;
+    for (String called : CALLS.getOrDefault(name, Set.of())) {
+      deepest = Math.max(deepest, depth(called, open));
+    }
+    open.remove(open.size() - 1);
+    return deepest + 1;
+  }
+
+  /** All calls of a run share one room, so what an object takes of it is held, whatever is told. */
+  private static void room() throws Exception {
+    DoorsOnCogs x = new DoorsOnCogs();
+    int[] fresh = room(x);
+    hold(fresh[0] <= 100 && fresh[1] <= 16000, "the room of an object: " + Arrays.toString(fresh));
+    Bench.street(x, "door 10 6;door 20 5;door 9 0;axle 0 1;mesh 1 2");
+    Bench.rule(x, "push 1 if not [ place < 3 ]");
+    for (int i = 0; i < 100; i++) {
+      x.coming(i % 3);
+      x.planned(7, 0);
+      x.cut(0, 2);
+      x.drawn(0, 3, 60, 0);
+      x.image(i % 4);
+    }
+    hold(Arrays.equals(fresh, room(x)), "no call makes an object");
+  }
+
+  /** How many objects and arrays hang on one, and how many fields and elements these have. */
+  private static int[] room(Object first) throws Exception {
+    Set<Object> found = Collections.newSetFromMap(new IdentityHashMap<>());
+    List<Object> todo = new ArrayList<>(List.of(first));
+    int elements = 0;
+    while (!todo.isEmpty()) {
+      Object o = todo.remove(todo.size() - 1);
+      if (!found.add(o)) {
+        continue;
+      }
+      if (o.getClass().isArray()) {
+        elements += Array.getLength(o);
+        if (o instanceof Object[] row) {
+          Collections.addAll(todo, row);
+        }
+        continue;
+      }
+      for (Field f : o.getClass().getDeclaredFields()) {
+        if (!Modifier.isStatic(f.getModifiers())) {
+          elements++;
+          f.setAccessible(true);
+          if (!f.getType().isPrimitive()) {
+            todo.add(f.get(o));
+          }
+        }
+      }
+    }
+    return new int[] {found.size(), elements};
   }
 }
