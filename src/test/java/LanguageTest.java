@@ -191,11 +191,12 @@ public final class LanguageTest {
   /** How many objects and arrays hang on one, and how many fields and elements these have. */
   private static int[] room(Object first) throws Exception {
     Set<Object> found = Collections.newSetFromMap(new IdentityHashMap<>());
-    List<Object> todo = new ArrayList<>(List.of(first));
+    List<Object> todo = new ArrayList<>();
+    todo.add(first);
     int elements = 0;
     while (!todo.isEmpty()) {
       Object o = todo.remove(todo.size() - 1);
-      if (!found.add(o)) {
+      if (o == null || !found.add(o)) {
         continue;
       }
       if (o.getClass().isArray()) {
